@@ -1,0 +1,46 @@
+import java.util.Objects;
+
+/** Compares answers with those that are due, prints the wrong ones and ends the test. */
+final class Due {
+    /** A call whose answer, or whose exception, is looked at. */
+    interface Call {
+        Object answer();
+    }
+
+    private static final int MOST_PRINTED = 40;
+    private static int compared = 0;
+    private static int wrong = 0;
+
+    private Due() {
+    }
+
+    static void is(String call, Object got, Object due) {
+        compared++;
+        if (!Objects.equals(got, due)) {
+            wrong++;
+            if (wrong <= MOST_PRINTED) {
+                System.out.println(call + " answered " + got + ", due is " + due);
+            }
+        }
+    }
+
+    /** The exception must be of just this class: a class below it would be one of the machine's. */
+    static void isThrown(String call, Class<? extends RuntimeException> due, Call made) {
+        is(call, outcome(made), due.getName());
+    }
+
+    static Object outcome(Call made) {
+        try {
+            return made.answer();
+        } catch (RuntimeException e) {
+            return e.getClass().getName();
+        }
+    }
+
+    static void end() {
+        System.out.println(wrong == 0 ? compared + " answers are as due" : wrong + " of " + compared + " answers are not as due");
+        if (wrong != 0) {
+            System.exit(1);
+        }
+    }
+}
