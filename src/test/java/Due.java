@@ -10,8 +10,14 @@ final class Due {
     private static final int MOST_PRINTED = 40;
     private static int compared = 0;
     private static int wrong = 0;
+    private static String about = "";
 
     private Due() {
+    }
+
+    /** What is written before every wrong answer from now on. */
+    static void about(String text) {
+        about = text;
     }
 
     static void is(String call, Object got, Object due) {
@@ -19,7 +25,7 @@ final class Due {
         if (!Objects.equals(got, due)) {
             wrong++;
             if (wrong <= MOST_PRINTED) {
-                System.out.println(call + " answered " + got + ", due is " + due);
+                System.out.println(about + call + " answered " + got + ", due is " + due);
             }
         }
     }
@@ -35,6 +41,10 @@ final class Due {
         } catch (RuntimeException e) {
             return e.getClass().getName();
         }
+    }
+
+    static int compared() {
+        return compared;
     }
 
     static void end() {
