@@ -7,24 +7,27 @@ final class Due {
         Object answer();
     }
 
-    private static final int MOST_PRINTED = 40;
+    private static final int MOST_PRINTED = 10;
     private static int compared = 0;
     private static int wrong = 0;
+    private static int printed = 0;
     private static String about = "";
 
     private Due() {
     }
 
-    /** What is written before every wrong answer from now on. */
+    /** What is written before every wrong answer from now on, anew up to the most. */
     static void about(String text) {
         about = text;
+        printed = 0;
     }
 
     static void is(String call, Object got, Object due) {
         compared++;
         if (!Objects.equals(got, due)) {
             wrong++;
-            if (wrong <= MOST_PRINTED) {
+            printed++;
+            if (printed <= MOST_PRINTED) {
                 System.out.println(about + call + " answered " + got + ", due is " + due);
             }
         }

@@ -1,8 +1,11 @@
 import java.util.ArrayList;
 import java.util.List;
 
-/** All that an object shows of what there is, as one text: some 110 calls on a board of 5 by 5. */
+/** All that an object shows of what there is, as one text: some 140 calls on the greatest board. */
 final class View {
+    /** A side longer than any that there may be is not walked along to its end. */
+    private static final int MOST_CELLS_SEEN = 8;
+
     private View() {
     }
 
@@ -23,8 +26,10 @@ final class View {
         for (int colour = 0; colour <= 9; colour++) {
             seen.add(new Ask("cellsWith", colour));
         }
-        for (int row = 0; row < x.height(); row++) {
-            for (int column = 0; column < x.width(); column++) {
+        int height = Math.min(x.height(), MOST_CELLS_SEEN);
+        int width = Math.min(x.width(), MOST_CELLS_SEEN);
+        for (int row = 0; row < height; row++) {
+            for (int column = 0; column < width; column++) {
                 seen.add(new Ask("isWall", column, row));
                 seen.add(new Ask("printAt", column, row));
             }
