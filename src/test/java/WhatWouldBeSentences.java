@@ -221,6 +221,23 @@ final class WhatWouldBeSentences {
             int[] to = beside[direction];
             Due.is("firstRoll(" + to[0] + ", " + to[1] + ", " + to[2] + ")", x.firstRoll(to[0], to[1], to[2]), direction);
         }
+        firstRollIntoCorners();
+        alongTheLongWay();
+    }
+
+    private static void firstRollIntoCorners() {
+        for (int corner = 0; corner < 4; corner++) {
+            int column = corner % 2 * 6;
+            int row = corner / 2 * 6;
+            PaintedDie x = State.board(7, 7);
+            x.put(column == 0 ? 1 : 5, row);
+            Due.is("firstRoll into a corner", x.firstRoll(column, row, column == 0 ? 3 : 4), column == 0 ? 3 : 1);
+            x.put(column, row == 0 ? 1 : 5);
+            Due.is("firstRoll into a corner", x.firstRoll(column, row, row == 0 ? 5 : 2), row == 0 ? 0 : 2);
+        }
+    }
+
+    private static void alongTheLongWay() {
         PaintedDie y = longWay();
         Due.is("firstRoll along the long way", y.firstRoll(0, 6, topAtTheEnd()), 1);
         for (int row = 0; row < 6; row += 2) {
@@ -278,10 +295,14 @@ final class WhatWouldBeSentences {
         Due.is("firstRoll(0, 0, 6), it never lies so", y.firstRoll(0, 0, 6), -1);
         PaintedDie z = row();
         Due.is("firstRoll(1, 0, 1), it never lies so", z.firstRoll(1, 0, 1), -1);
-        Due.is("firstRoll(1, 1, 4), a wall", z.firstRoll(1, 1, 4), -1);
         z.turnWall(1, 0);
         Due.is("firstRoll(2, 0, 6), cut off", z.firstRoll(2, 0, 6), -1);
+        PaintedDie w = State.FULL.made();
+        w.turnWall(3, 3);
+        w.turnWall(5, 6);
         for (int face = 1; face <= 6; face++) {
+            Due.is("firstRoll(3, 3, " + face + "), a wall", w.firstRoll(3, 3, face), -1);
+            Due.is("firstRoll(5, 6, " + face + "), a wall beside it", w.firstRoll(5, 6, face), -1);
             for (int cell = 0; cell < 4; cell++) {
                 Due.is("firstRoll, shut in", State.SHUT_IN.made().firstRoll(cell % 2, cell / 2, face), -1);
             }
@@ -374,10 +395,16 @@ final class WhatWouldBeSentences {
         Due.is("cellsBehind(20), the least board", State.board(2, 2).cellsBehind(20), 2);
         Due.is("cellsBehind(20), the greatest board", State.board(7, 7).cellsBehind(20), 25);
         Due.is("cellsBehind(19), the greatest board", State.board(7, 7).cellsBehind(19), 24);
-        PaintedDie x = BoardAndDieSentences.fullOfWalls();
-        x.turnWall(1, 0);
-        Due.is("cellsBehind(19), two cells", x.cellsBehind(19), 1);
-        Due.is("cellsBehind(20), two cells", x.cellsBehind(20), 1);
+        for (int[] beside : new int[][] {{3, 2}, {4, 3}, {3, 4}, {2, 3}}) {
+            PaintedDie x = BoardAndDieSentences.fullOfWalls();
+            x.turnWall(3, 3);
+            x.put(3, 3);
+            Due.is("cellsBehind(20), four walls around", x.cellsBehind(20), 0);
+            x.turnWall(beside[0], beside[1]);
+            Due.is("cellsBehind(1), two cells", x.cellsBehind(1), 1);
+            Due.is("cellsBehind(19), two cells", x.cellsBehind(19), 1);
+            Due.is("cellsBehind(20), two cells", x.cellsBehind(20), 1);
+        }
         Due.is("cellsBehind(20), the farthest of the long way is out of it", longWay().cellsBehind(20), 11);
     }
 
