@@ -98,29 +98,30 @@ final class Refused {
         return all;
     }
 
-    /** In every state: the numbers from low to high are taken, those beside them refused; the others are the arguments before it. */
-    static void lastArgument(String due, int low, int high, String name, int... first) {
-        for (int no : numbersBeside(low, high)) {
-            inEveryState(due, name, joined(first, new int[] {no}));
-        }
-        for (State state : State.values()) {
-            for (int yes = low; yes <= high; yes++) {
-                Ask ask = new Ask(name, joined(first, new int[] {yes}));
-                Due.is(state + ", whether " + ask + " is refused", ask.of(state.made()).equals(due), false);
-            }
-        }
-    }
-
-    /** The same for the argument that stands first. */
+    /** In every state the numbers from low to high are taken as the first argument, those beside them refused. */
     static void firstArgument(String due, int low, int high, String name, int... last) {
         for (int no : numbersBeside(low, high)) {
             inEveryState(due, name, joined(new int[] {no}, last));
         }
+        for (int yes = low; yes <= high; yes++) {
+            inNoState(due, name, joined(new int[] {yes}, last));
+        }
+    }
+
+    /** The same for the last argument. */
+    static void lastArgument(String due, int low, int high, String name, int... first) {
+        for (int no : numbersBeside(low, high)) {
+            inEveryState(due, name, joined(first, new int[] {no}));
+        }
+        for (int yes = low; yes <= high; yes++) {
+            inNoState(due, name, joined(first, new int[] {yes}));
+        }
+    }
+
+    private static void inNoState(String by, String name, int... arguments) {
         for (State state : State.values()) {
-            for (int yes = low; yes <= high; yes++) {
-                Ask ask = new Ask(name, joined(new int[] {yes}, last));
-                Due.is(state + ", whether " + ask + " is refused", ask.of(state.made()).equals(due), false);
-            }
+            Ask ask = new Ask(name, arguments);
+            Due.is(state + ", whether " + ask + " is refused", ask.of(state.made()).equals(by), false);
         }
     }
 }

@@ -501,7 +501,7 @@ final class WhatWouldBeSentences {
         }
     }
 
-    /** Of two boards one has a wall more, on a cell that is cut off: walls() and isWall() are 1 more, 38 and 15 numbers ahead of the last. */
+    /** A wall more, on a cell that is cut off: walls() and isWall() there are 1 more, 38 and 15 numbers ahead of the last. */
     private static void wallsCountOneOrZero() {
         PaintedDie x = State.SHUT_IN.made();
         long without = x.digest();
